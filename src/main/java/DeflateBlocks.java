@@ -285,7 +285,7 @@ public final class DeflateBlocks {
         private int count;
 
         Bytes(int room) {
-            row = new int[room];
+            row = new int[Math.max(0, room)];
         }
 
         boolean has(int i) {
@@ -439,9 +439,10 @@ public final class DeflateBlocks {
         private boolean full;
 
         Code(int size) {
-            widths = new int[size];
-            words = new int[size];
-            symbolsByWord = new int[size];
+            int room = Math.max(0, size);
+            widths = new int[room];
+            words = new int[room];
+            symbolsByWord = new int[room];
         }
 
         static Code fixedSymbols() {
@@ -888,14 +889,15 @@ public final class DeflateBlocks {
         }
 
         int bit() {
+            int i = bits >> 3;
             if (fault != 0) {
                 return 0;
             }
-            if (!hasBit()) {
-                fail(NO_BIT);
+            if (i < 0 || i >= count || i >= row.length) {
+                fault = NO_BIT;
                 return 0;
             }
-            int b = row[bits >> 3] >> (bits & 7) & 1;
+            int b = row[i] >> (bits & 7) & 1;
             bits++;
             return b;
         }
@@ -937,8 +939,7 @@ public final class DeflateBlocks {
         }
 
         boolean hasBit() {
-            int i = bits >> 3;
-            return i >= 0 && i < count && i < row.length;
+            return bits >> 3 < count;
         }
     }
 
@@ -962,20 +963,16 @@ public final class DeflateBlocks {
                 end = cuts.endOfBlock(begin, data.count);
                 firstStep = endStep;
                 endStep = repeats.indexFrom(firstStep, end);
-                packBlock(data, repeats, level, log);
-            }
-        }
-
-        private void packBlock(Bytes data, Repeats repeats, int level, BlockLog log) {
-            if (level >= OWN) {
-                own.workOut(repeats, firstStep, endStep);
-            }
-            int firstBit = out.bits;
-            int kind = level == BEST_LEVEL ? bestKind(data, repeats) : level;
-            writeBlock(kind, data, repeats);
-            log.add(kind, begin, end - begin, firstBit, out.bits - firstBit);
-            if (kind == OWN) {
-                log.takeWidths(own.symbols, own.distances, own.rowCode);
+                if (level >= OWN) {
+                    own.workOut(repeats, firstStep, endStep);
+                }
+                int kind = level == BEST_LEVEL ? bestKind(data, repeats) : level;
+                int firstBit = out.bits;
+                writeBlock(kind, data, repeats);
+                log.add(kind, begin, end - begin, firstBit, out.bits - firstBit);
+                if (kind == OWN) {
+                    log.takeWidths(own.symbols, own.distances, own.rowCode);
+                }
             }
         }
 
@@ -1057,7 +1054,10 @@ public final class DeflateBlocks {
             opened.count = 0;
             log.clear();
             readHead(frame);
-            readBlocks(log);
+            boolean isLast = false;
+            for (int i = 0; i < BLOCK_ROOM && !isLast && in.fault == 0; i++) {
+                isLast = readBlock(log);
+            }
             in.toByte();
             readTail(frame);
             if (in.fault == 0 && in.hasBit()) {
@@ -1103,19 +1103,12 @@ public final class DeflateBlocks {
             }
         }
 
-        private void readBlocks(BlockLog log) {
-            boolean isLast = false;
-            for (int i = 0; i < BLOCK_ROOM && !isLast && in.fault == 0; i++) {
-                int firstBit = in.bits;
-                int begin = opened.count;
-                isLast = in.field(1) == 1;
-                int kind = in.field(2);
-                readBlock(kind, log);
-                log.add(kind, begin, opened.count - begin, firstBit, in.bits - firstBit);
-            }
-        }
-
-        private void readBlock(int kind, BlockLog log) {
+        /** Whether it is the last one. */
+        private boolean readBlock(BlockLog log) {
+            int firstBit = in.bits;
+            int begin = opened.count;
+            boolean isLast = in.field(1) == 1;
+            int kind = in.field(2);
             switch (kind) {
                 case PLAIN:
                     readPlain();
@@ -1125,13 +1118,15 @@ public final class DeflateBlocks {
                     break;
                 case OWN:
                     readOwnCodes();
-                    log.takeWidths(ownSymbols, ownDistances, rowCode);
                     readSteps(ownSymbols, ownDistances);
+                    log.takeWidths(ownSymbols, ownDistances, rowCode);
                     break;
                 default:
                     in.fail(BAD_KIND);
                     break;
             }
+            log.add(kind, begin, opened.count - begin, firstBit, in.bits - firstBit);
+            return isLast;
         }
 
         private void readPlain() {
