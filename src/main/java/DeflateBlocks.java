@@ -435,7 +435,7 @@ public final class DeflateBlocks {
         private final int[] given = new int[MOST_WIDTH + 1];
         private int wordCount;
         private int greatest;
-        private boolean overfull;
+        // An OVERFULL CODE is never full: what is beyond a width doubles with each further one.
         private boolean full;
 
         Code(int size) {
@@ -465,7 +465,6 @@ public final class DeflateBlocks {
             countWidths();
             wordCount = 0;
             greatest = 0;
-            overfull = false;
             full = false;
             int next = 0;
             for (int w = 1; w <= MOST_WIDTH; w++) {
@@ -476,7 +475,6 @@ public final class DeflateBlocks {
                 wordCount += counts[w];
                 if (counts[w] > 0) {
                     greatest = w;
-                    overfull = overfull || next > 1 << w;
                     full = next == 1 << w;
                 }
             }
@@ -519,13 +517,9 @@ public final class DeflateBlocks {
             return symbolsByWord[i];
         }
 
-        boolean isFit() {
-            return full && !overfull;
-        }
-
         /** DISTANCES may have no word, or one alone of width 1. */
         boolean isFitForDistances() {
-            return isFit() || wordCount == 0 || wordCount == 1 && greatest == 1;
+            return full || wordCount == 0 || wordCount == 1 && greatest == 1;
         }
     }
 
@@ -1195,7 +1189,7 @@ public final class DeflateBlocks {
             }
             takeRow(0, symbolTotal, ownSymbols);
             takeRow(symbolTotal, distanceTotal, ownDistances);
-            if (!ownSymbols.isFit() || ownSymbols.widths[END] == 0) {
+            if (!ownSymbols.full || ownSymbols.widths[END] == 0) {
                 in.fail(BAD_SYMBOLS);
             }
             if (!ownDistances.isFitForDistances()) {
@@ -1209,7 +1203,7 @@ public final class DeflateBlocks {
                 rowCode.widths[ROW_ORDER[i]] = in.field(3);
             }
             rowCode.settle();
-            if (!rowCode.isFit()) {
+            if (!rowCode.full) {
                 in.fail(BAD_ROW_CODE);
             }
         }

@@ -59,11 +59,17 @@ final class Bits {
 
     DeflateBlocks onTape() {
         DeflateBlocks x = new DeflateBlocks();
+        moveTo(x);
+        return x;
+    }
+
+    /** In place of what is on its tape. */
+    void moveTo(DeflateBlocks x) {
+        x.keep(0);
         toByte();
         for (int i = 0; i < bits.length(); i += 8) {
             int v = Integer.parseInt(new StringBuilder(bits.substring(i, i + 8)).reverse().toString(), 2);
             x.more(v);
         }
-        return x;
     }
 }

@@ -90,11 +90,13 @@ public final class FaceTest {
         C.due("at(300)", x.at(300), NONE);
         x.cutAt(5);
         x.cutAt(9);
+        C.holds("steps() ahead of empty()", x.steps() > 0);
         C.due("empty()", x.empty(), 300);
         C.due("empty() again", x.empty(), 0);
         C.due("at(0) behind empty()", x.at(0), NONE);
         C.due("steps() behind empty()", x.steps(), 0);
-        C.due("cutAt(1) behind empty()", x.cutAt(1), 1);
+        C.due("cutAt(5) behind empty()", x.cutAt(5), 1);
+        C.due("cutAt(9) behind empty()", x.cutAt(9), 2);
         C.due("octet(3) behind empty()", x.octet(3), 1);
     }
 

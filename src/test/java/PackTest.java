@@ -13,6 +13,8 @@ public final class PackTest {
         knownTapes();
         repeats();
         ownCodes();
+        across();
+        oneAfterAnother();
         levels();
         ties();
         room();
@@ -171,6 +173,45 @@ public final class PackTest {
         C.due("last BLOCK's DISTANCE", x.width(1, 3), 1);
         x.pack(0, 1);
         C.due("no KIND 2 any more", x.width(0, 256), NONE);
+    }
+
+    /** Widths of SYMBOLS and DISTANCES are one row: 1 of 256, then 1 of 257, 0 and 1 by one 16. */
+    private static void across() {
+        DeflateBlocks x = Checks.withData("ababaaaa");
+        x.cutAt(2);
+        row("a REPEAT of 2 back", step(x, 2), 2, 3, 2);
+        row("a REPEAT of 1 back", step(x, 3), 5, 3, 1);
+        x.pack(0, 2);
+        C.due("width of 256", x.width(0, 256), 1);
+        C.due("width of 257", x.width(0, 257), 1);
+        C.due("width of DISTANCE 0", x.width(1, 0), 1);
+        C.due("width of DISTANCE 1", x.width(1, 1), 1);
+        C.due("the WIDTH CODE has 16", x.width(2, 16), 2);
+        C.due("the WIDTH CODE has 18", x.width(2, 18), 1);
+        C.due("the WIDTH CODE has 1", x.width(2, 1), 2);
+        C.due("bits", x.block(1, 4), 3 + 14 + 3 * 18 + 2 * 8 + 2 + 4 + 5);
+    }
+
+    /** A shorter row behind a longer one in the same object. */
+    private static void oneAfterAnother() {
+        DeflateBlocks x = Checks.withData("many letters, hardly a repeat in sight");
+        x.cutAt(5);
+        C.due("steps", x.steps(), 38);
+        x.pack(2, 2);
+        x.empty();
+        DeflateBlocks y = new DeflateBlocks();
+        for (char c : "tiny text".toCharArray()) {
+            x.octet(c);
+            y.octet(c);
+        }
+        for (int level = 0; level < 4; level++) {
+            C.due("pack", x.pack(0, level), y.pack(0, level));
+            C.holds("the same tape", Arrays.equals(Checks.tapeOf(x), Checks.tapeOf(y)));
+            row("the same BLOCK", block(x, 0), block(y, 0));
+            C.due("no other BLOCK", x.block(1, 0), NONE);
+        }
+        C.due("steps", x.steps(), 9);
+        C.due("step behind", x.step(9, 0), NONE);
     }
 
     private static void levels() {
