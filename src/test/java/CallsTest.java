@@ -22,6 +22,7 @@ public final class CallsTest {
         place();
         block();
         blockOfNone();
+        blockOfTheLatest();
         width();
         widthOfNone();
         steps();
@@ -310,6 +311,31 @@ public final class CallsTest {
         C.due("block(0, 4) of none", x.block(0, 4), NONE);
         x.open(0);
         C.due("block(0, 0) behind a FAULT alone", x.block(0, 0), NONE);
+    }
+
+    /** What stands in DATA and on THE TAPE meanwhile does not matter. */
+    private static void blockOfTheLatest() {
+        DeflateBlocks x = Checks.withData("latest");
+        x.pack(0, 2);
+        int[] packed = Checks.block(x, 0);
+        int width = x.width(0, 't');
+        x.octet('t');
+        x.cutAt(3);
+        x.flip(0, 0);
+        x.open(0);
+        x.keep(0);
+        x.more(0);
+        x.empty();
+        C.row("BLOCK 0 behind other calls", Checks.block(x, 0), packed);
+        C.due("width(0, 't') behind other calls", x.width(0, 't'), width);
+        new Bits().plain(false, 5).begin(true, 1).fixed(256).moveTo(x);
+        C.due("open(0)", x.open(0), 1);
+        C.row("BLOCK 0 behind open()", Checks.block(x, 0), 0, 0, 1, 0, 48);
+        C.row("BLOCK 1 behind open()", Checks.block(x, 1), 1, 1, 0, 48, 10);
+        C.due("width(0, 't') behind open()", x.width(0, 't'), NONE);
+        x.pack(0, 1);
+        C.row("BLOCK 0 behind pack()", Checks.block(x, 0), 1, 0, 1, 0, 18);
+        C.due("no BLOCK 1 behind pack()", x.block(1, 0), NONE);
     }
 
     private static void width() {
